@@ -686,7 +686,7 @@ public final class TwoServes {
                 soft[i] = other.soft[i];
                 served[i] = other.served[i];
             }
-            System.arraycopy(other.rows, 0, rows, 0, rows.length);
+            System.arraycopy(other.rows, 0, rows, 0, SERVERS * ROW);
             count = other.count;
             won = other.won;
             lost = other.lost;
@@ -700,7 +700,7 @@ public final class TwoServes {
             court = other.court;
         }
 
-        /** The number of a new SERVER; the rows of one that undo() sent away may lie there still. */
+        /** The number of a new SERVER; SERVED and the ROW are 0 there, as undo() brings back the 0 of THE IMAGE. */
         int welcome(Server s, int hardForce, int softForce) {
             if (!within(s.number, SERVERS)) {
                 return FULL;
@@ -708,10 +708,6 @@ public final class TwoServes {
             servers[s.number] = s;
             hard[s.number] = hardForce;
             soft[s.number] = softForce;
-            served[s.number] = 0;
-            for (int part = 0; part < ROW; part++) {
-                rows[s.number * ROW + part] = 0;
-            }
             count = s.number + 1;
             return s.number;
         }

@@ -12,6 +12,7 @@ public final class ImageActsTapesTest {
         image();
         undoAll();
         undoServers();
+        undoBook();
         undoLeaves();
         act();
         actWraps();
@@ -151,6 +152,28 @@ public final class ImageActsTapesTest {
         CHECK.due("but one is there", none.count(1), 1);
         CHECK.due("and the next is the second", Courts.court(none, "in 8 f=9"), 1);
         CHECK.due("which holds", none.of(0, 19), 49);
+    }
+
+    private static void undoBook() {
+        CHECK.promise(32);
+        TwoServes x = Courts.with(0, 0, 8, 2);
+        x.server(2, 0, 8, 2);
+        // 8 is in below 47 and wins below 80, 2 is in below 83 and wins below 50
+        x.book(0, 46, 79);
+        x.book(1, 82, 49);
+        x.book(0, 46, 80);
+        x.image();
+        x.book(-1, 0, 0);
+        x.book(1, 99, 84);
+        x.book(0, 99, 84);
+        CHECK.due("another BOOK", x.looked(), 0);
+        x.undo();
+        CHECK.due("the BOOK as it was", x.looked(), 2);
+        x.set(0, 0, 2);
+        CHECK.due("its first row is of SERVER 0, and e 79", x.looked(), 0);
+        x.set(0, 0, 8);
+        x.set(1, 1, 9);
+        CHECK.due("its second row is of SERVER 1, and d 82", x.looked(), 1);
     }
 
     private static void undoLeaves() {

@@ -173,6 +173,8 @@ public final class PointsForcesTest {
         }
         Courts.court(x, "out 50 f=1;in 99 f=5");
         CHECK.due("1 is out more often", x.risk(0), 1);
+        Courts.court(x, "out 50 f=0;in 99 f=5");
+        CHECK.due("0 is out more often", x.risk(0), 0);
         CHECK.due("FIRST is always in", x.risk(3), -5);
     }
 
@@ -212,6 +214,7 @@ public final class PointsForcesTest {
         for (int server : new int[] {-1, 4, LOW, HIGH}) {
             CHECK.due("nobody", x.more(server, 0), NO_DIFFERENCE);
         }
+        CHECK.due("6, 3 for 5, 2", Courts.with(0, 0, 5, 2).more(0, 0), chance(6, 3, 0) - chance(5, 2, 0));
         TwoServes tired = Courts.with(3, 0, 8, 2);
         tired.set(0, 2, 40);
         CHECK.due("TIRING, two less", tired.more(0, 0), chance(7, 3, 0) - chance(6, 2, 0));

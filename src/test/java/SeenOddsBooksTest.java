@@ -110,6 +110,10 @@ public final class SeenOddsBooksTest {
         CHECK.due("nobody", x.mean(0), TwoServes.NO);
         CHECK.due("nobody", x.mean(1), TwoServes.NO);
         x.server(0, 0, 8, 2);
+        x.score(3, 3);
+        CHECK.due("one alone", x.mean(0), 595950);
+        CHECK.due("of 1", x.mean(1), 1);
+        x.score(0, 0);
         x.server(2, 0, 8, 2);
         x.server(1, 0, 8, 2);
         // 595950, 83 * 50 * 100 + 17 * 83 * 50 = 485550, 47 * 80 * 100 + 53 * 47 * 80 = 575280

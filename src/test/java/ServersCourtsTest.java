@@ -168,6 +168,9 @@ public final class ServersCourtsTest {
         holds(x, "!!p=2&!k=4", true);
         holds(x, "!p=2&!k=4", false);
         holds(x, "f=04&f<99", true);
+        holds(x, "p=2&(k=0)", false);
+        holds(x, "p=2&(k=0|l=0)&f=4|w=0", false);
+        holds(x, "w=0|p=2&((k=5)&!(l=0))", true);
     }
 
     /** Whether the E holds of SERVER 2 and FORCE 4: six COURTS at most, so each on an object of its own. */
@@ -197,6 +200,15 @@ public final class ServersCourtsTest {
         CHECK.due("IN 9: 0 at least", x.of(0, 19), 0);
         CHECK.due("together, then 100 at most", x.of(0, 10), 100);
         CHECK.due("IN 4 as without", x.of(0, 14), 71);
+        Courts.court(x, "in 9 f=9" + "|f=9".repeat(22) + ";");
+        Courts.court(x, "in 1 f=9" + ";in 1 f=9".repeat(10));
+        Courts.court(x, "in 1 f=9" + ";in 1 f=9".repeat(9));
+        CHECK.due("ten CLAUSES, whatever was read ahead of them", x.of(0, 19), 51);
+        for (int n = 0; n < 3; n++) {
+            Courts.court(x, "in 1 f=8" + "|f=8".repeat(22) + ")");
+        }
+        Courts.court(x, "in 1 f=8|!f<9" + "|f=8".repeat(21));
+        CHECK.due("a long one", x.of(0, 19), 42);
     }
 
     private static void set() {
