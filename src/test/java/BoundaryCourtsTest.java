@@ -361,6 +361,13 @@ public final class BoundaryCourtsTest {
         Courts.court(x, "in 1 f<99;in 2 f=09;in 4 f>00;in 8 f<00;in 16 f>99");
         CHECK.due("two digits", x.of(0, 19), 41 + 7);
         CHECK.due("0 is not above 00", x.of(0, 10), 96);
+        for (char letter : "pkfswl".toCharArray()) {
+            in("in 1 " + letter + "<0", 0, 95);
+            in("in 1 !" + letter + "<0", 0, 96);
+            in("in 1 " + letter + ">99", 0, 95);
+            in("in 1 !" + letter + ">99", 0, 96);
+            in("in 1 " + letter + "=99|" + letter + "<0&" + letter + ">99", 0, 95);
+        }
     }
 
     /** TIRING: "HARD less SERVED by 20 (cut; 0 at least), SOFT." */

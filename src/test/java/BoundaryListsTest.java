@@ -329,6 +329,13 @@ public final class BoundaryListsTest {
             CHECK.due("none of " + n, x.looked(), NONE_FOUND);
         }
         CHECK.due("nobody", new TwoServes().looked(), NONE_FOUND);
+        x.book(-1, 0, 0);
+        x.book(0, 99, 99);
+        CHECK.due("a lost one", x.looked(), 0);
+        x.book(-1, 0, 0);
+        CHECK.due("which is away", x.looked(), NONE_FOUND);
+        x.book(0, 0, 0);
+        CHECK.due("and a won one alone", x.looked(), NONE_FOUND);
         TWINS.asked("looked()", TwoServes::looked);
     }
 

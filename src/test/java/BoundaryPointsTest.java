@@ -414,6 +414,7 @@ public final class BoundaryPointsTest {
         CHECK.due("all but 0 alike", on("out 5 s>0", 0, 5, 5).stand(0, 0), 1);
         CHECK.due("0 and 2 alike", on("out 5 !s=1", 0, 5, 5).stand(0, 0), 0);
         CHECK.due("CHANCE 0", on("out 65 s=2", 0, 5, 5).stand(0, 1), 0);
+        CHECK.due("there is no STANCE above 2", on("out 65 s>2", 0, 5, 5).stand(0, 0), 0);
         for (int what : new int[] {-1, 2, LOW, HIGH}) {
             TWINS.refused("what " + what, NONE, x -> x.stand(3, what));
         }
@@ -604,6 +605,13 @@ public final class BoundaryPointsTest {
             CHECK.due("no help to the strong, to " + n, x.ahead(0, 1, n), 0);
             CHECK.due("nor to the weak, to " + n, x.ahead(1, 0, n), 0);
         }
+        Courts.court(x, "win 1 p=0&w=0;out 1 p=1&l=0");
+        for (int n = 1; n <= 4; n++) {
+            int due = x.match(0, 1, n) - (MILLION - x.match(1, 0, n));
+            CHECK.due("in between, to " + n, x.ahead(0, 1, n), due);
+            CHECK.due("as much for the other, to " + n, x.ahead(1, 0, n), due);
+        }
+        CHECK.due("to 1 by CLEAN of both", x.ahead(0, 1, 1), x.game(0, 1) - (MILLION - x.game(1, 1)));
         Courts.court(x, "in 99 f=5;win 99 f=5");
         CHECK.due("whoever serves wins", x.ahead(0, 1, 1), MILLION);
         CHECK.due("to 4", x.ahead(1, 0, 4), MILLION);

@@ -43,25 +43,27 @@ public final class GamesTest {
     private static void game() {
         CHECK.promise(20);
         for (int kind = 0; kind < 7; kind++) {
-            TwoServes x = Courts.with(kind, 4, 8, 2);
-            Courts.court(x, "win 20 w>l|w=3;in 9 s=1&l>1;out 30 w=1&f>3;win 9 l=3;out 5 w<2");
-            x.set(0, 2, 21);
-            x.row(0, 1, 6);
-            long clean = 0;
             for (int won = 4; won >= 0; won--) {
                 for (int lost = 4; lost >= 0; lost--) {
+                    TwoServes x = ofKind(kind);
                     if (x.score(won, lost) == 1) {
-                        clean = game(x, won, lost);
-                        x.score(won, lost);
-                        CHECK.due("GAME at " + won + ", " + lost + " of KIND " + kind, x.game(0, 0), clean);
+                        String name = " at " + won + ", " + lost + " of KIND " + kind;
+                        CHECK.due("GAME" + name, x.game(0, 0), game(ofKind(kind), won, lost));
+                        CHECK.due("CLEAN" + name, x.game(0, 1), game(ofKind(kind), 0, 0));
                         CHECK.due("WON stays", x.told(0), won);
                         CHECK.due("LOST stays", x.told(1), lost);
                     }
                 }
             }
-            x.score(2, 4);
-            CHECK.due("CLEAN of KIND " + kind, x.game(0, 1), clean);
         }
+    }
+
+    private static TwoServes ofKind(int kind) {
+        TwoServes x = Courts.with(kind, 4, 8, 2);
+        Courts.court(x, "win 20 w>l|w=3;in 9 s=1&l>1;out 30 w=1&f>3;win 9 l=3;out 5 w<2");
+        x.set(0, 2, 21);
+        x.row(0, 1, 6);
+        return x;
     }
 
     /** GAME by the document's words, with CHANCE as the object tells it at each WON, LOST. */
@@ -95,11 +97,10 @@ public final class GamesTest {
 
     private static void swing() {
         CHECK.promise(21);
-        TwoServes x = Courts.with(0, 0, 8, 2);
-        Courts.court(x, "win 20 w>l;out 30 w=1&f>3;win 9 l=3");
+        TwoServes x = ofKind(0);
         for (int won = 0; won < 4; won++) {
             for (int lost = 0; lost < 4; lost++) {
-                long due = game(x, won + 1, lost) - game(x, won, lost + 1);
+                long due = game(ofKind(0), won + 1, lost) - game(ofKind(0), won, lost + 1);
                 x.score(won, lost);
                 CHECK.due("SWING at " + won + ", " + lost, x.swing(0), due);
             }

@@ -12,6 +12,7 @@ public final class ModelTest {
     private final Model model = new Model();
     private final int run;
     private String text = "";
+    private int asked;
 
     private ModelTest(int run) {
         this.run = run;
@@ -37,7 +38,7 @@ public final class ModelTest {
             }
             call(6);
         }
-        for (int n = 0; n < CALLS; n++) {
+        while (asked < CALLS) {
             call(random.nextInt(9) == 0 ? 5 : random.nextInt(41));
         }
     }
@@ -139,11 +140,22 @@ public final class ModelTest {
         int from = random.nextInt(3);
         ask(36, tape, 1, 2 + random.nextInt(6), 0, 0);
         for (int i = 0; i < 4; i++) {
-            int served = Math.max(0, x.of(i, 4));
-            long v = random.nextInt(12) == 0 ? served + 1 : served;
-            CHECK.due(name(37, tape, from + i, 0, 0, 0) + " " + v, x.item(tape, from + i, v), model.item(tape, from + i, v));
+            int served = Math.max(0, model.of(i, 4));
+            item(tape, from + i, random.nextInt(12) == 0 ? served + 1 : served);
         }
         ask(29, tape, from, 0, 0, 0);
+    }
+
+    private void item(int tape, int i, long v) {
+        if (isCall()) {
+            CHECK.due(name(37, tape, i, 0, 0, 0) + " " + v, x.item(tape, i, v), model.item(tape, i, v));
+        }
+    }
+
+    /** What an object answers after its 512th call is free, so it is not asked then. */
+    private boolean isCall() {
+        asked++;
+        return asked <= CALLS;
     }
 
     private String name(int which, int a, int b, int c, int d, int e) {
@@ -151,6 +163,9 @@ public final class ModelTest {
     }
 
     private void ask(int which, int a, int b, int c, int d, int e) {
+        if (!isCall()) {
+            return;
+        }
         String name = name(which, a, b, c, d, e);
         CHECK.promise(which + 2);
         switch (which) {

@@ -13,6 +13,7 @@ public final class ServersCourtsTest {
         kindsForces();
         courtLetters();
         courtSums();
+        courtsLong();
         set();
         row();
         feed();
@@ -204,11 +205,16 @@ public final class ServersCourtsTest {
         Courts.court(x, "in 1 f=9" + ";in 1 f=9".repeat(10));
         Courts.court(x, "in 1 f=9" + ";in 1 f=9".repeat(9));
         CHECK.due("ten CLAUSES, whatever was read ahead of them", x.of(0, 19), 51);
+    }
+
+    private static void courtsLong() {
+        CHECK.promise(3);
+        TwoServes x = Courts.with(0, 0, 5, 5);
         for (int n = 0; n < 3; n++) {
             Courts.court(x, "in 1 f=8" + "|f=8".repeat(22) + ")");
         }
         Courts.court(x, "in 1 f=8|!f<9" + "|f=8".repeat(21));
-        CHECK.due("a long one", x.of(0, 19), 42);
+        CHECK.due("a long one, whatever was read ahead of it", x.of(0, 19), 42);
     }
 
     private static void set() {
