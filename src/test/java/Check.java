@@ -1,4 +1,4 @@
-/** Counts the answers that are not the due ones, and tells each with the promise that it belongs to. */
+/** Counts the answers that are not the due ones, and tells each with the promise that it belongs to, if it does. */
 final class Check {
     private final String name;
     private int promise;
@@ -17,7 +17,8 @@ final class Check {
         asked++;
         if (answer != due) {
             wrong++;
-            System.out.println("promise " + promise + ": " + call + " answered " + answer + ", due is " + due);
+            String where = promise == 0 ? "" : "promise " + promise + ": ";
+            System.out.println(where + call + " answered " + answer + ", due is " + due);
         }
     }
 

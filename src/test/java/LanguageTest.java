@@ -1,3 +1,6 @@
+import com.sun.source.tree.CompilationUnitTree;
+import com.sun.source.util.JavacTask;
+import com.sun.source.util.Trees;
 import java.io.IOException;
 import java.lang.reflect.Constructor;
 import java.lang.reflect.Field;
@@ -5,14 +8,17 @@ import java.lang.reflect.Method;
 import java.lang.reflect.Modifier;
 import java.nio.file.Files;
 import java.nio.file.Path;
-import java.util.ArrayList;
+import java.util.HashSet;
 import java.util.List;
 import java.util.Set;
 import java.util.TreeSet;
 import java.util.regex.Matcher;
 import java.util.regex.Pattern;
+import javax.tools.JavaCompiler;
+import javax.tools.StandardJavaFileManager;
+import javax.tools.ToolProvider;
 
-/** The document's face, and those rules of LANGUAGE.md that can be seen from the class or from its text. */
+/** The document's face as the class has it; and the rules of LANGUAGE.md, read off the compiler's tree of the file. */
 public final class LanguageTest {
     private static final Check CHECK = new Check("the face, the language");
     private static final Path SOURCE = Path.of("src/main/java/TwoServes.java");
@@ -22,15 +28,17 @@ public final class LanguageTest {
     }
 
     public static void main(String[] args) throws IOException {
-        face();
+        methodsOfTheFace();
+        constructorOfTheFace();
+        constantsOfTheFace();
+        wordsAheadOfTheCalls();
         names();
-        classes();
-        words();
+        tree();
         CHECK.end();
     }
 
-    /** Rule 1: public is what the document's face says, and nothing is package-visible or protected. */
-    private static void face() throws IOException {
+    /** Rule 1: the public methods are those of the document's face, and none is package-visible or protected. */
+    private static void methodsOfTheFace() throws IOException {
         Set<String> due = new TreeSet<>();
         Matcher m = Pattern.compile("    public (int|long) (\\w+)\\((.*)\\);").matcher(Files.readString(DOCUMENT));
         while (m.find()) {
@@ -54,12 +62,19 @@ public final class LanguageTest {
             }
         }
         CHECK.that("the methods " + found + " are " + due, found.equals(due));
+    }
+
+    private static void constructorOfTheFace() {
         Constructor<?>[] constructors = TwoServes.class.getDeclaredConstructors();
         CHECK.due("constructors", constructors.length, 1);
         CHECK.that("public", Modifier.isPublic(constructors[0].getModifiers())
             && constructors[0].getParameterCount() == 0);
         CHECK.that("public and final", Modifier.isPublic(TwoServes.class.getModifiers())
             && Modifier.isFinal(TwoServes.class.getModifiers()));
+        CHECK.that("without a package", TwoServes.class.getPackageName().isEmpty());
+    }
+
+    private static void constantsOfTheFace() {
         Set<String> constants = new TreeSet<>();
         for (Field field : TwoServes.class.getDeclaredFields()) {
             if (!Modifier.isPrivate(field.getModifiers())) {
@@ -72,7 +87,28 @@ public final class LanguageTest {
             Set.of("int NONE", "int BAD", "int STATE", "int FULL", "long NO")) ? 1 : 0, 1);
     }
 
-    /** Rule 1: no private method bears the name of a public one; rule 11: at most seven parameters. */
+    /** "Ahead of the calls .. the interface says: ---- ..": that line, then these calls, then the next line. */
+    private static void wordsAheadOfTheCalls() throws IOException {
+        Matcher says = Pattern.compile("Ahead of the calls (.*) the interface says: (---- .*)\\.")
+            .matcher(Files.readString(DOCUMENT));
+        StringBuilder due = new StringBuilder();
+        while (says.find()) {
+            due.append(says.group(2)).append(": ").append(says.group(1).replace("`", "")).append('\n');
+        }
+        StringBuilder found = new StringBuilder();
+        Matcher lines = Pattern.compile("    // (---- .*)|    public \\w+ (\\w+)\\(.*").matcher("");
+        for (String line : Files.readAllLines(SOURCE)) {
+            if (lines.reset(line).matches() && lines.group(1) != null) {
+                found.append(found.length() == 0 ? "" : "\n").append(lines.group(1)).append(":");
+            } else if (lines.matches()) {
+                found.append(found.charAt(found.length() - 1) == ':' ? " " : ", ").append(lines.group(2));
+            }
+        }
+        CHECK.that("the class says\n" + found + "\nand the document\n" + due,
+            due.length() > 0 && found.toString().startsWith(due.toString().strip()));
+    }
+
+    /** Rule 1: no private method bears the name of a public one. */
     private static void names() {
         Set<String> names = new TreeSet<>();
         for (Method method : TwoServes.class.getDeclaredMethods()) {
@@ -80,69 +116,27 @@ public final class LanguageTest {
                 names.add(method.getName());
             }
         }
-        for (Class<?> type : all()) {
+        Set<Class<?>> all = new HashSet<>(List.of(TwoServes.class.getDeclaredClasses()));
+        all.add(TwoServes.class);
+        for (Class<?> type : all) {
             for (Method method : type.getDeclaredMethods()) {
                 CHECK.that(method + " bears a name of its own",
                     Modifier.isPublic(method.getModifiers()) || !names.contains(method.getName()));
-                CHECK.that(method + " takes seven at most", method.getParameterCount() <= 7);
             }
         }
     }
 
-    /** Rules 2, 5, 11: classes inside are static, some twelve with some twenty fields; static fields are final. */
-    private static void classes() {
-        CHECK.that("some twelve classes", all().size() <= 12);
-        for (Class<?> type : all()) {
-            CHECK.that(type + " is static", type == TwoServes.class || Modifier.isStatic(type.getModifiers()));
-            CHECK.that(type + " is not public", type == TwoServes.class || !Modifier.isPublic(type.getModifiers()));
-            int fields = 0;
-            for (Field field : type.getDeclaredFields()) {
-                if (Modifier.isStatic(field.getModifiers())) {
-                    CHECK.that(field + " is final", Modifier.isFinal(field.getModifiers()));
-                } else {
-                    fields++;
-                }
-            }
-            CHECK.that(type + " has some twenty fields", fields <= 20);
-        }
-    }
-
-    private static List<Class<?>> all() {
-        List<Class<?>> all = new ArrayList<>(List.of(TwoServes.class));
-        all.addAll(List.of(TwoServes.class.getDeclaredClasses()));
-        return all;
-    }
-
-    /** Rules 2, 4, 6, 11, 13: words and signs that may not stand in the file, comments and texts left out. */
-    private static void words() throws IOException {
-        String code = Files.readString(SOURCE).replaceAll("(?s)/\\*.*?\\*/|//[^\\n]*|\"[^\"\\n]*\"", "");
-        for (String word : List.of("throw", "throws", "try", "catch", "finally", "synchronized", "assert", "package",
-                "protected", "volatile", "transient", "native", "abstract Object", "var", "hashCode", "toString",
-                "float", "double", "Exact", "System.out", "System.exit", "Thread", "Random", "Object")) {
-            CHECK.that("no " + word, !Pattern.compile("\\b" + Pattern.quote(word) + "\\b").matcher(code).find());
-        }
-        for (String signs : List.of("->", "::", "@", "String.format", "\" +", "+ \"")) {
-            CHECK.that("no " + signs, !code.contains(signs));
-        }
-        Matcher imports = Pattern.compile("import ([^;]*);").matcher(code);
-        while (imports.find()) {
-            CHECK.that("import " + imports.group(1),
-                Set.of("java.util.ArrayList", "java.util.Arrays").contains(imports.group(1)));
-        }
-        methodsAreShort(code.split("\n"));
-    }
-
-    /** Rule 11: some sixty lines. */
-    private static void methodsAreShort(String[] lines) {
-        for (int from = 0; from < lines.length; from++) {
-            Matcher begins = Pattern.compile("( {4}| {8})\\S.*\\) \\{").matcher(lines[from]);
-            if (begins.matches()) {
-                int to = from;
-                while (to < lines.length && !lines[to].equals(begins.group(1) + "}")) {
-                    to++;
-                }
-                CHECK.that("short: " + lines[from], to - from <= 60);
-            }
-        }
+    /** Rules 2 to 13. */
+    private static void tree() throws IOException {
+        JavaCompiler compiler = ToolProvider.getSystemJavaCompiler();
+        StandardJavaFileManager files = compiler.getStandardFileManager(null, null, null);
+        JavacTask task = (JavacTask) compiler.getTask(null, files, null, List.of("-proc:none"), null,
+            files.getJavaFileObjects(SOURCE));
+        CompilationUnitTree unit = task.parse().iterator().next();
+        task.analyze();
+        Rules rules = new Rules(CHECK, unit, Trees.instance(task), task.getElements());
+        rules.scan(unit, null);
+        rules.ofTheWhole();
+        files.close();
     }
 }
